@@ -37,6 +37,12 @@ final class CluesTest {
         lawsAre(cocks, 1, 13);
         cocks.faced(0, 0);
         lawsAre(cocks, 0, -9);
+        cocks.forget();
+        cocks.faced(1, 0);
+        cocks.faced(3, 0);
+        cocks.faced(8, 0);
+        cocks.faced(9, 1);
+        lawsAre(cocks, 1, 9);
         Due.is("laws(-1)", cocks.laws(-1), -1);
         Due.is("laws(2)", cocks.laws(2), -1);
     }
@@ -131,9 +137,19 @@ final class CluesTest {
         falsesAre(cocks, 2, 122);
         cocks.met(3, 9);
         falsesAre(cocks, 2, 122);
+        Due.is("nothing is let go of", cocks.count(4), 6);
+        cocks.forget();
+        cocks.met(20, 1);
+        cocks.met(17, 2);
+        falsesAre(cocks, 0, 230);
+        cocks.forget();
+        // from 24 by -3 would do, but no CELL is there
+        cocks.met(21, 1);
+        cocks.met(18, 2);
+        waysAre(cocks, 0, -9);
+        falsesAre(cocks, 1, 126);
         Due.is("falses(-1)", cocks.falses(-1), -1);
         Due.is("falses(2)", cocks.falses(2), -1);
-        Due.is("nothing is let go of", cocks.count(4), 6);
     }
 
     private static void forgetting() {

@@ -90,6 +90,11 @@ final class CouldTest {
         Due.is("less that one", cocks.most(1, 0), 2);
         Due.is("how much", cocks.most(1, 1), 6);
         Due.is("how much in none", cocks.most(0, 1), 3);
+        cocks = Due.told(4, "c12 1 0 0;c12 1 1 0;p4 3;p20 3;");
+        cocks.hours(1);
+        Due.is("by one more than none", cocks.most(1, 0), 1);
+        Due.is("by one more than one", cocks.most(2, 0), 3);
+        Due.is("how much", cocks.most(2, 1), 2);
         // 4 tellings each: 2 hours each
         cocks = Due.told(4, "c12 1 0 0;c12 1 1 0;p4 3;p20 3;");
         cocks.hours(4);

@@ -3,11 +3,13 @@ final class DoneTest {
     public static void main(String[] args) {
         hours();
         smoke();
+        allRowsInUse();
         asItIsInEachHour();
         building();
         asking();
         undoing();
         undoingTen();
+        undoingMixedTen();
         nowAndCover();
         Due.end("DoneTest");
     }
@@ -36,6 +38,24 @@ final class DoneTest {
         cocks.hours(9);
         Due.is("saw beside smoke", cocks.saw(0, 0), Due.bits(0, 1, 5, 7, 8));
         Due.is("saw where none is", cocks.saw(0, 1), 0x1FF);
+    }
+
+    private static void allRowsInUse() {
+        AskedCocks cocks = Due.told(13, "c0 1 1 0;c1 1 1 0;c2 1 1 0;c3 1 1 0;c4 1 1 0;"
+            + "p9 3;p10 3;p11 3;p12 3;s9 0 0;s10 1 1;s11 2 2;s12 3 3;");
+        Due.is("blind by five", cocks.blind(0), Due.bits(0));
+        Due.is("hours(4)", cocks.hours(4), 4);
+        for (int c = 0; c < 5; c++) {
+            for (int p = 0; p < 4; p++) Due.is("saw(" + c + ", " + p + ")", cocks.saw(c, p), 15 & ~(1 << p));
+        }
+        Due.is("now(3)", cocks.now(3), 12);
+        Due.retold(cocks, 3, "c20 1 1 0;p9 3;s1 0 0;");
+        Due.is("blind by one", cocks.blind(0), 0xFFFFFF & ~Due.bits(21, 22, 23));
+        Due.is("hours(1)", cocks.hours(1), 1);
+        Due.is("now(3)", cocks.now(3), 0);
+        Due.retold(cocks, 3, "c0 1 1 0;p10 3;s1 0 0;");
+        Due.is("hours(2)", cocks.hours(2), 2);
+        Due.is("no smoke of an earlier text", cocks.saw(0, 0), 3);
     }
 
     private static void asItIsInEachHour() {
@@ -129,6 +149,44 @@ final class DoneTest {
         Due.is("older ones are lost", cocks.undo(), -2);
         Due.is("still asked", cocks.cock(0, 6), 1);
         Due.is("hour", cocks.now(0), 1);
+    }
+
+    private static void undoingMixedTen() {
+        AskedCocks cocks = Due.told(7, "c0 5 1 0;c1 5 1 0;c2 5 1 0;r5 3;r6 4;r7 5;p23 3;");
+        cocks.hours(3);
+        cocks.asks(0);
+        cocks.builds(5, 1);
+        cocks.hours(2);
+        cocks.builds(6, 2);
+        cocks.asks(1);
+        cocks.hours(4);
+        cocks.builds(7, 3);
+        cocks.asks(2);
+        cocks.builds(5, 9);
+        cocks.hours(1);
+        cocks.builds(6, 8);
+        Due.is("ten are known", cocks.count(5), 10);
+        undone(cocks, 9, 10, 7, 9, 2, 3);
+        undone(cocks, 8, 9, 7, 9, 2, 3);
+        undone(cocks, 7, 9, 7, 1, 2, 3);
+        undone(cocks, 6, 9, 3, 1, 2, 3);
+        undone(cocks, 5, 9, 3, 1, 2, 5);
+        undone(cocks, 4, 5, 3, 1, 2, 5);
+        undone(cocks, 3, 5, 1, 1, 2, 5);
+        undone(cocks, 2, 5, 1, 1, 4, 5);
+        undone(cocks, 1, 3, 1, 1, 4, 5);
+        undone(cocks, 0, 3, 1, 3, 4, 5);
+        Due.is("undo", cocks.undo(), -2);
+    }
+
+    /** One more is undone: how many are left, the hour, who was asked, the roofs of 5, 6, 7. */
+    private static void undone(AskedCocks cocks, int left, int hour, int asked, int roof5, int roof6, int roof7) {
+        Due.is("undo", cocks.undo(), left);
+        Due.is("hour with " + left + " left", cocks.now(0), hour);
+        Due.is("asked with " + left + " left", cocks.now(1), asked);
+        Due.is("roof 5 with " + left + " left", cocks.roof(5), roof5);
+        Due.is("roof 6 with " + left + " left", cocks.roof(6), roof6);
+        Due.is("roof 7 with " + left + " left", cocks.roof(7), roof7);
     }
 
     private static void nowAndCover() {

@@ -5,6 +5,7 @@ final class KindsTest {
         badMarks();
         images();
         imagesKeepUndos();
+        imagesKeepWhichUndos();
         imagesKeepNothingElse();
         counts();
         Due.end("KindsTest");
@@ -91,6 +92,31 @@ final class KindsTest {
         Due.is("saw", cocks.saw(0, 0), 0);
         Due.is("not asked", cocks.now(1), 0);
         Due.is("undo", cocks.undo(), -2);
+    }
+
+    private static void imagesKeepWhichUndos() {
+        AskedCocks cocks = Due.told(3, "r3 4;c0 5 1 0;p2 3;");
+        cocks.builds(3, 5);
+        cocks.hours(2);
+        cocks.builds(3, 6);
+        cocks.asks(0);
+        cocks.keep(0);
+        while (cocks.count(5) > 0) cocks.undo();
+        cocks.hours(1);
+        cocks.asks(0);
+        cocks.builds(9, 9);
+        cocks.builds(9, 8);
+        cocks.builds(9, 7);
+        Due.is("back(0)", cocks.back(0), 2);
+        Due.is("roof 9", cocks.roof(9), 0);
+        Due.is("undo asks", cocks.undo(), 3);
+        Due.is("asked", cocks.now(1), 0);
+        Due.is("undo builds", cocks.undo(), 2);
+        Due.is("roof 3", cocks.roof(3), 5);
+        Due.is("undo hours", cocks.undo(), 1);
+        Due.is("hour", cocks.now(0), 0);
+        Due.is("undo builds", cocks.undo(), 0);
+        Due.is("roof 3", cocks.roof(3), 4);
     }
 
     private static void imagesKeepNothingElse() {

@@ -11,6 +11,8 @@ final class TextTest {
         ranges();
         tooMany();
         faultChangesNothing();
+        wholeRoom();
+        behindTheText();
         readAnew();
         Due.end("TextTest");
     }
@@ -83,6 +85,11 @@ final class TextTest {
         Due.is("roof 12", cocks.roof(12), 3);
         fault("rr 1 2;", 0);
         fault("rc 1 2;", 0);
+        fault("ra1 2;", 0);
+        fault("rz1 2;", 0);
+        fault("r ab 2;", 2);
+        // 99 is what the letter c is as a byte
+        fault("99 0 1 0 0;", 0);
         fault("r1c2;", 2);
         fault("r1,2;", 2);
         fault("r\t1 2;", 1);
@@ -191,6 +198,29 @@ final class TextTest {
         Due.is("undo stays", cocks.count(5), 1);
         Due.is("image stays", cocks.back(1), 2);
         Due.is("clear", cocks.clear(), 15);
+    }
+
+    private static void wholeRoom() {
+        fault("r".repeat(150), 0);
+        fault("r" + "1".repeat(149), 1);
+        fault("r1 2;" + " ".repeat(144) + "c", 150);
+        fault("r1 2;" + " ".repeat(142) + "c12", 150);
+        fault("r1 2;" + " ".repeat(144) + ";", 149);
+        Due.told(1, " ".repeat(145) + "r1 2;");
+        Due.told(1, "r1 2;" + " ".repeat(145));
+    }
+
+    private static void behindTheText() {
+        AskedCocks cocks = new AskedCocks();
+        Due.typeAll(cocks, "r12 345;");
+        cocks.clear();
+        Due.typeAll(cocks, "r12 3");
+        Due.is("what was cleared is no digit of it", cocks.diocese(), -15);
+        cocks.clear();
+        Due.typeAll(cocks, "rr12");
+        cocks.clear();
+        Due.typeAll(cocks, "r");
+        Due.is("what was cleared is no letter of it", cocks.diocese(), -11);
     }
 
     private static void readAnew() {
