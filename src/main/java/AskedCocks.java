@@ -22,6 +22,8 @@ public final class AskedCocks {
     private static final int FROM = 1, TO = 2;
     private static final int HOURS_OF_ONE_CALL = 9;
     private static final int HOURS_OF_MOST = 60;
+    /** Far above what it takes to ask all COCKS. */
+    private static final int HOURS_FOR_ALL = 1000000;
     private static final int HOURS_OF_ODDS = 8;
     private static final int TENTHS = 10;
     private static final int HIGHEST_BYTE = 255;
@@ -137,7 +139,8 @@ public final class AskedCocks {
             case 1: return watch.present.asked;
             case 2: return watch.present.amountKnownWith(0);
             case 3: return watch.present.amountSeenBy(watch.told.allCocks());
-            case 4: return watch.cover();
+            // COVER is what is best to ask where hours don't count: all is KNOWN then, by fewest
+            case 4: return watch.bestToAsk(HOURS_FOR_ALL);
             default: return BAD;
         }
     }
@@ -625,7 +628,9 @@ public final class AskedCocks {
         }
 
         private int tellingOf(int c) {
-            return amountSeenBy(1 << c);
+            int telling = 0;
+            for (int p = 0; p < PEOPLE; p++) telling += Integer.bitCount(seen[c][p]);
+            return telling;
         }
 
         private int hoursToAsk(int cocks) {
@@ -714,11 +719,6 @@ public final class AskedCocks {
             for (int c = 0; c < told.cockCount; c++) {
                 if (!present.isAsked(c) && canSee(c, cell, hour)) present.seen[c][p] |= 1 << hour;
             }
-        }
-
-        /** COVER is what is best to ask where hours don't count: all is KNOWN then, by fewest. */
-        private int cover() {
-            return bestToAsk(Integer.MAX_VALUE);
         }
 
         private int bestToAsk(int hours) {

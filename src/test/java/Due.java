@@ -2,8 +2,21 @@
 final class Due {
     private static int right = 0;
     private static int wrong = 0;
+    private static int sentences = 0;
+    /** The sentence that is being tested, ahead of what is printed of its wrong answers. */
+    private static String sentence = "";
 
     private Due() {
+    }
+
+    /** A test of its own for a sentence of the document, named by its promise and the case. */
+    static void holds(String named, Runnable test) {
+        int before = right + wrong;
+        sentence = named + ": ";
+        sentences++;
+        test.run();
+        isTrue("its test compares answers", right + wrong > before);
+        sentence = "";
     }
 
     static void is(String call, long got, long due) {
@@ -12,7 +25,7 @@ final class Due {
             return;
         }
         wrong++;
-        System.out.println("WRONG: " + call + " answered " + got + ", due is " + due);
+        System.out.println("WRONG: " + sentence + call + " answered " + got + ", due is " + due);
     }
 
     static void isTrue(String what, boolean holds) {
@@ -45,7 +58,8 @@ final class Due {
 
     /** Ends the machine: with 1 if an answer was wrong, or if there was none. */
     static void end(String test) {
-        System.out.println(test + ": " + right + " answers right, " + wrong + " wrong");
+        String named = sentences > 0 ? sentences + " sentences, " : "";
+        System.out.println(test + ": " + named + right + " answers right, " + wrong + " wrong");
         System.exit(wrong == 0 && right > 0 ? 0 : 1);
     }
 }
