@@ -303,6 +303,16 @@ final class DoneEdgesTest {
             Due.is("now(0)", cocks.now(0), 1);
             Due.is("saw(0, 0)", cocks.saw(0, 0), 1);
         });
+        Due.holds("Promise 13, undo: of HOURS gone by before neither more nor less was SEEN", () -> {
+            AskedCocks cocks = Due.told(4, "c0 1 1 2;c9 1 1 0;p5 3;s5 1 1;");
+            cocks.hours(9);
+            Due.is("saw(0, 0)", cocks.saw(0, 0), Due.bits(0, 4, 5, 8));
+            cocks.hours(4);
+            Due.is("saw(0, 0)", cocks.saw(0, 0), Due.bits(0, 4, 5, 8, 9, 12));
+            cocks.undo();
+            Due.is("saw(0, 0)", cocks.saw(0, 0), Due.bits(0, 4, 5, 8));
+            Due.is("saw(1, 0)", cocks.saw(1, 0), 0);
+        });
         Due.holds("Promise 13, undo: in HOURS that go by again all is SEEN as it is then", () -> {
             AskedCocks cocks = inHour(4);
             cocks.undo();

@@ -224,6 +224,19 @@ final class KindsEdgesTest {
             }
             Due.is("undo()", cocks.undo(), -2);
         });
+        Due.holds("Promise 28, back: what may be UNDONE: each ROOF as it was till then, though others were BUILT since", () -> {
+            AskedCocks cocks = new AskedCocks();
+            for (int height = 1; height <= 9; height++) cocks.builds(23, height);
+            cocks.keep(0);
+            for (int n = 0; n < 9; n++) cocks.undo();
+            for (int x = 0; x < 11; x++) cocks.builds(x, 9);
+            Due.is("back(0)", cocks.back(0), 0);
+            Due.is("roof(23)", cocks.roof(23), 9);
+            for (int height = 8; height >= 0; height--) {
+                Due.is("undo()", cocks.undo(), height);
+                Due.is("roof(23)", cocks.roof(23), height);
+            }
+        });
         Due.holds("Promise 28, back: it is itself nothing to be UNDONE", () -> {
             AskedCocks cocks = State.HALF.made();
             cocks.back(1);

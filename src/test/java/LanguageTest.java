@@ -8,8 +8,12 @@ import java.nio.file.Files;
 import java.nio.file.Path;
 import java.util.Arrays;
 import java.util.List;
+import java.util.Map;
 import java.util.Set;
+import java.util.TreeMap;
 import java.util.TreeSet;
+import java.util.regex.Matcher;
+import java.util.regex.Pattern;
 
 /** The public face, and what of ../shared/LANGUAGE.md can be read off the source. The first argument: its path. */
 final class LanguageTest {
@@ -20,6 +24,8 @@ final class LanguageTest {
         "int odds(int,int,int,int,int,int)", "int faced(int,int)", "int laws(int)", "int tryNext()",
         "int met(int,int)", "int ways(int)", "int falses(int)", "int forget()", "int mark(int,int)", "int keep(int)",
         "int back(int)", "int count(int)", "long trace()"};
+    private static final Pattern METHOD = Pattern.compile("(?: {4}| {8})(?:public|private) .*?(\\w+)\\(.*\\) \\{");
+    private static final Pattern CALL = Pattern.compile("\\b(\\w+)\\(");
     private static final Set<String> LIBRARY = Set.of("Arrays.fill", "System.arraycopy", "Math.abs", "Math.max",
         "Math.min", "Integer.bitCount");
 
@@ -32,7 +38,9 @@ final class LanguageTest {
             members(inside);
         }
         Due.isTrue("some twelve classes", AskedCocks.class.getDeclaredClasses().length < 12);
-        source(Files.readAllLines(Path.of(args[0]), StandardCharsets.US_ASCII));
+        List<String> lines = Files.readAllLines(Path.of(args[0]), StandardCharsets.US_ASCII);
+        source(lines);
+        depth(lines);
         Due.end("LanguageTest");
     }
 
@@ -103,8 +111,39 @@ final class LanguageTest {
         }
     }
 
+    /** By names alone, so that like names count as one: no deeper than it looks here. */
+    private static void depth(List<String> lines) {
+        Map<String, Set<String>> calls = new TreeMap<>();
+        String method = null;
+        for (String line : lines) {
+            Matcher start = METHOD.matcher(line);
+            if (start.matches()) {
+                method = start.group(1);
+                calls.computeIfAbsent(method, name -> new TreeSet<>());
+            } else if (method != null) {
+                Matcher call = CALL.matcher(line.replaceAll("//.*$", ""));
+                while (call.find()) calls.get(method).add(call.group(1));
+            }
+            if (line.matches("( {4}| {8})\\}")) method = null;
+        }
+        Due.isTrue("methods are found", calls.size() > 50);
+        for (String name : calls.keySet()) {
+            Due.isTrue("calls from " + name + " go eight deep at most", depth(calls, name, 1) <= 8);
+        }
+    }
+
+    /** Above eight, if they go round. */
+    private static int depth(Map<String, Set<String>> calls, String name, int level) {
+        int deepest = level;
+        if (level > 8) return deepest;
+        for (String called : calls.get(name)) {
+            if (calls.containsKey(called)) deepest = Math.max(deepest, depth(calls, called, level + 1));
+        }
+        return deepest;
+    }
+
     private static void library(String place, String line) {
-        java.util.regex.Matcher call = java.util.regex.Pattern.compile("\\b(Arrays|System|Math|Integer|Long)\\.\\w+").matcher(line);
+        Matcher call = Pattern.compile("\\b(Arrays|System|Math|Integer|Long)\\.\\w+").matcher(line);
         while (call.find()) {
             if (!line.startsWith("import")) Due.isTrue(place + call.group(), LIBRARY.contains(call.group()));
         }

@@ -4,6 +4,8 @@ import java.util.Random;
 final class ModelTest {
     private static final int RUNS = 400;
     private static final int CALLS = 512;
+    /** A TEXT, typed behind so many calls, and what follows stay under CALLS. */
+    private static final int LAST_TEXT = 300;
 
     private final Random random;
     private final AskedCocks cocks = new AskedCocks();
@@ -20,8 +22,9 @@ final class ModelTest {
     }
 
     private void run(int seed) {
-        while (calls < CALLS) {
-            if (random.nextInt(calls < 300 ? 90 : 400) == 0 || calls == 0) typeText();
+        // a mark takes two calls
+        while (calls < CALLS - 1) {
+            if (calls == 0 || calls < LAST_TEXT && random.nextInt(60) == 0) typeText();
             else anyCall(random.nextInt(100));
         }
     }
@@ -87,11 +90,11 @@ final class ModelTest {
     }
 
     private int aCock() {
-        return upTo(Math.max(cocks.count(0) - 1, 0));
+        return upTo(Math.max(model.count(0) - 1, 0));
     }
 
     private int aPerson() {
-        return upTo(Math.max(cocks.count(1) - 1, 0));
+        return upTo(Math.max(model.count(1) - 1, 0));
     }
 
     private void anyCall(int kind) {

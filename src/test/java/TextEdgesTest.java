@@ -364,6 +364,8 @@ final class TextEdgesTest {
         fault("letters that begin no ITEM: more behind an ITEM's", "roof1 2;", 0);
         fault("letters that begin no ITEM: the lowest, a", "a1 2;", 0);
         fault("letters that begin no ITEM: the highest, z", "z1 2;", 0);
+        fault("letters that begin no ITEM: the lowest beside an ITEM's", "ra1 2;", 0);
+        fault("letters that begin no ITEM: the highest beside an ITEM's", "rz1 2;", 0);
         fault("letters that begin no ITEM: behind an ITEM", "r1 2;x", 5);
         fault("letters that begin no ITEM: 150 of them", "r".repeat(150), 0);
         fault("a NUMBER where an ITEM would begin", "1 2;", 0);
