@@ -143,6 +143,8 @@ final class CluesEdgesTest {
         // TURN 4 to 9 and 0 from SIDE 0: 1 in HOUR 4, 2 in 5, 3 in 6, 4 of 7 in 7
         tries("the greater part is least: HOUR 6 (4 of 7), ahead of 7 (4 of 7)", whoFaced(0, 0, 1, 0, 2, 0, 3, 0), 6);
         tries("by both sides alike: from SIDE 1", whoFaced(0, 1, 1, 1, 2, 1, 3, 1), 6);
+        // TURN 2, 5, 6 and 7 from SIDE 0: in HOUR 15 turned 7, 3, 2 and 2 times
+        tries("the latest HOUR that any can be, 15", whoFaced(1, 0, 4, 0, 7, 1), 15);
         Due.holds("Promise 21, tryNext: NONE, if there are fewer than 2, and only then (each two are parted)", () -> {
             for (int first = 0; first < 60; first++) {
                 for (int second = first; second < 60; second++) {
